@@ -14,6 +14,7 @@ public final class RandomRunsTest {
     private final int[] height;
     private final int costs;
     private final int capacities;
+    private final boolean wild;
     private final String name;
 
     private RandomRunsTest(int seed) {
@@ -25,6 +26,7 @@ public final class RandomRunsTest {
         model = new PlainModel(nodes, maxEdges);
         costs = random.nextInt(3) == 0 ? 1 : random.nextInt(3) == 0 ? 3000 : 4;
         capacities = random.nextInt(3) == 0 ? 1_000_000 : 1 + random.nextInt(6);
+        wild = random.nextInt(4) == 0;
         height = new int[nodes];
         for (int v = 0; v < nodes; v++) height[v] = random.nextInt(costs);
         name = "run " + seed;
@@ -67,14 +69,14 @@ public final class RandomRunsTest {
         return oddOr(random.nextInt(20) == 0 ? nodes : random.nextInt(nodes));
     }
 
-    // Most costs are those of a climb and a little more, so that few circles are negative.
+    // Costs are those of a climb and a little more, so that no circle is negative, but in wild nets.
     private void edge() {
         int u = node();
         int v = node();
         boolean known = u >= 0 && u < nodes && v >= 0 && v < nodes;
         int climb = known ? height[v] - height[u] : 0;
         int cost = oddOr(climb + random.nextInt(costs));
-        if (random.nextInt(400) == 0) cost = -1;
+        if (wild && random.nextInt(3) == 0) cost = -random.nextInt(costs + 1);
         int capacity = oddOr(random.nextInt(8) == 0 ? 0 : 1 + random.nextInt(capacities));
         String call = name + " edge(" + u + ", " + v + ", " + capacity + ", " + cost + ")";
         DUE.is(call, model.edge(u, v, capacity, cost), x.edge(u, v, capacity, cost));
