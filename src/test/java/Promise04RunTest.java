@@ -103,7 +103,16 @@ public final class Promise04RunTest {
         x.edge(0, 3, 1, 4);
         x.ends(0, 3);
         DUE.is("run(1)", FlowProofs.MORE, x.run(1));
-        flowsAre("fewer arcs, though more than the dearest", x, 0, 0, 1, 1, 0);
+        flowsAre("fewer arcs, but less cost first", x, 0, 0, 1, 1, 0);
+
+        FlowProofs turned = new FlowProofs(4, 5);
+        turned.edge(2, 3, 1, 1);
+        turned.edge(1, 2, 1, 1);
+        turned.edge(0, 1, 1, 1);
+        turned.edge(0, 2, 1, 2);
+        turned.ends(0, 3);
+        turned.run(1);
+        flowsAre("fewer arcs, though of greater numbers", turned, 1, 0, 0, 1);
     }
 
     private static void lesserArcWins() {
