@@ -26,7 +26,7 @@ public final class FaceTest {
         "public int FlowProofs.count(int)"};
 
     public static void main(String[] args) {
-        Due due = new Due();
+        Due due = new Due("The public face");
         TreeSet<String> seen = new TreeSet<>();
         for (Field f : FlowProofs.class.getDeclaredFields()) {
             if (!Modifier.isPrivate(f.getModifiers())) seen.add(f.toString());

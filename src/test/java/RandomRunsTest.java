@@ -2,7 +2,7 @@ import java.util.Random;
 
 /** Runs of up to 512 random calls, the same ones every time, against the plain model. */
 public final class RandomRunsTest {
-    private static final Due DUE = new Due();
+    private static final Due DUE = new Due("Random runs");
     private static final int[] ODD = {
         Integer.MIN_VALUE, -1_000_001, -10_001, -1, 0, 1, 40, 10_000, 10_001, 1_000_000, 1_000_001, Integer.MAX_VALUE};
 
