@@ -1,3 +1,5 @@
+import java.util.Arrays;
+
 /** The part 'Terms', each sentence that a run of calls can come to. */
 public final class TermsTest {
     private static final Due DUE = new Due("Terms");
@@ -186,37 +188,45 @@ public final class TermsTest {
         flowsAre("solved", x, 2, 0, 2, 0, 0);
     }
 
-    // Terms, "Of two the BETTER one has less cost": though it has more arcs, and greater ones.
-    private static void lessCostWins() {
-        FlowProofs x = new FlowProofs(4, 4);
-        x.edge(0, 3, 1, 4);
-        x.edge(0, 1, 1, 1);
-        x.edge(1, 2, 1, 1);
-        x.edge(2, 3, 1, 1);
-        x.ends(0, 3);
-        DUE.is("run(1)", FlowProofs.MORE, x.run(1));
-        flowsAre("less cost", x, 0, 1, 1, 1);
+    private interface EdgesTest {
+        void on(int[][] edges);
     }
 
-    // Terms, "of those fewer arcs": though they are greater ones.
-    private static void fewerArcsWin() {
-        FlowProofs x = new FlowProofs(4, 5);
-        x.edge(0, 1, 1, 1);
-        x.edge(1, 2, 1, 1);
-        x.edge(2, 3, 1, 1);
-        x.edge(0, 2, 1, 2);
-        x.edge(0, 3, 1, 4);
+    /** In which order the edges come must not decide, where cost or number of arcs do. */
+    private static void inEveryOrder(int[][] edges, int fixed, EdgesTest test) {
+        if (fixed == edges.length) test.on(edges);
+        for (int i = fixed; i < edges.length; i++) {
+            int[][] other = edges.clone();
+            other[fixed] = edges[i];
+            other[i] = edges[fixed];
+            inEveryOrder(other, fixed + 1, test);
+        }
+    }
+
+    /** Each edge: from, to, cost, and what is to flow after one round. */
+    private static void firstRoundFrom0To3(int[][] edges) {
+        FlowProofs x = new FlowProofs(4, edges.length);
+        for (int[] e : edges) x.edge(e[0], e[1], 1, e[2]);
         x.ends(0, 3);
         DUE.is("run(1)", FlowProofs.MORE, x.run(1));
-        flowsAre("two arcs, not three", x, 0, 0, 1, 1, 0);
+        for (int e = 0; e < edges.length; e++) {
+            String name = Arrays.deepToString(edges) + ": flow(" + e + ")";
+            DUE.is(name, edges[e][3], x.flow(e));
+        }
+    }
 
-        FlowProofs one = new FlowProofs(3, 3);
-        one.edge(0, 1, 1, 0);
-        one.edge(1, 2, 1, 0);
-        one.edge(0, 2, 1, 0);
-        one.ends(0, 2);
-        DUE.is("one: run(1)", FlowProofs.MORE, one.run(1));
-        flowsAre("one arc, not two", one, 0, 0, 1);
+    // Terms, "Of two the BETTER one has less cost": though it has more arcs, whichever they are.
+    private static void lessCostWins() {
+        int[][] edges = {{0, 3, 4, 0}, {0, 1, 1, 1}, {1, 2, 1, 1}, {2, 3, 1, 1}, {1, 3, 3, 0}};
+        inEveryOrder(edges, 0, TermsTest::firstRoundFrom0To3);
+    }
+
+    // Terms, "of those fewer arcs": two, not three, and one, not two, whichever they are.
+    private static void fewerArcsWin() {
+        int[][] two = {{0, 1, 1, 0}, {1, 2, 1, 0}, {2, 3, 1, 1}, {0, 2, 2, 1}, {0, 3, 4, 0}};
+        inEveryOrder(two, 0, TermsTest::firstRoundFrom0To3);
+        int[][] one = {{0, 1, 1, 0}, {1, 2, 1, 0}, {2, 3, 1, 0}, {1, 3, 2, 0}, {0, 3, 3, 1}};
+        inEveryOrder(one, 0, TermsTest::firstRoundFrom0To3);
     }
 
     // Terms, "of those the lesser arc where they differ first": not where they differ later.
@@ -330,6 +340,14 @@ public final class TermsTest {
         DUE.is("no way goes on from it: run", FlowProofs.CIRCLE, x.run(1));
         x.ends(4, 0);
         DUE.is("no way at all: run", FlowProofs.CIRCLE, x.run(0));
+        FlowProofs later = new FlowProofs(4, 4);
+        later.edge(0, 1, 1, 1);
+        later.ends(0, 1);
+        DUE.is("none yet: run", FlowProofs.DONE, later.run(1));
+        later.edge(2, 3, 1, -4);
+        DUE.is("half of it: run", FlowProofs.DONE, later.run(1));
+        later.edge(3, 2, 1, 3);
+        DUE.is("it came when it was solved: run", FlowProofs.CIRCLE, later.run(1));
     }
 
     // Terms, "a circle of negative cost": of the least costs that forty edges can have.
