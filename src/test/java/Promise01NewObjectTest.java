@@ -13,6 +13,7 @@ public final class Promise01NewObjectTest {
         DUE.holds("'brought within': nodes and edges both", Promise01NewObjectTest::bothOutside);
         DUE.holds("'No edges'", Promise01NewObjectTest::noEdges);
         DUE.holds("'no source and sink'", Promise01NewObjectTest::noEnds);
+        DUE.holds("'No edges, no source and sink': beside objects that have them", Promise01NewObjectTest::besideOthers);
         DUE.finish();
     }
 
@@ -96,5 +97,17 @@ public final class Promise01NewObjectTest {
         DUE.is("check()", false, x.check());
         DUE.is("count(2)", 0, x.count(2));
         DUE.is("count(3)", 0, x.count(3));
+    }
+
+    // Promise 1, "No edges, no source and sink": whatever other objects have; and those keep what they have.
+    private static void besideOthers() {
+        String alone = Answers.nowAndLater(new FlowProofs(4, 6));
+        for (State state : State.all()) {
+            String otherAlone = Answers.nowAndLater(state.make());
+            FlowProofs other = state.make();
+            FlowProofs x = new FlowProofs(4, 6);
+            DUE.same("a new object beside: " + state.name(), alone, Answers.nowAndLater(x));
+            DUE.same(state.name() + ", beside a new object", otherAlone, Answers.nowAndLater(other));
+        }
     }
 }
